@@ -1445,6 +1445,7 @@ public final class MurmurSheds {
         private final int[] crowns = new int[MOST_SHEDS];
         private final int[] heard = new int[MOST_SHEDS];
         private final int[] heardAhead = new int[MOST_SHEDS];
+        // Of the night that went by last: it is asked for behind a night alone, so no copy holds it.
         private final int[] creaks = new int[MOST_SHEDS];
 
         private void begin(Yard yard) {
@@ -1456,7 +1457,6 @@ public final class MurmurSheds {
             for (int i = 0; i < MOST_SHEDS; i++) {
                 put(heights, i, 0);
                 put(heard, i, 1 << i);
-                put(creaks, i, 0);
             }
         }
 
@@ -1468,7 +1468,6 @@ public final class MurmurSheds {
             copyRow(other.heats, heats);
             copyRow(other.crowns, crowns);
             copyRow(other.heard, heard);
-            copyRow(other.creaks, creaks);
         }
 
         /** One night goes by with this frost: the sheds that pop. */

@@ -30,6 +30,10 @@ final class Check {
         System.out.println(call + " threw nothing");
     }
 
+    int wrong() {
+        return wrong;
+    }
+
     void end() {
         System.out.println(wrong + " of " + made + " answers are not as due");
         if (wrong != 0 || made == 0) {
