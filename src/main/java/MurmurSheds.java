@@ -79,6 +79,16 @@ public final class MurmurSheds {
         }
     }
 
+    private static long at(long[] row, int i) {
+        return i >= 0 && i < row.length ? row[i] : 0;
+    }
+
+    private static void put(long[] row, int i, long value) {
+        if (i >= 0 && i < row.length) {
+            row[i] = value;
+        }
+    }
+
     private static void copyRow(int[] from, int[] to) {
         for (int i = 0; i < from.length && i < to.length; i++) {
             to[i] = from[i];
@@ -1280,7 +1290,7 @@ public final class MurmurSheds {
         }
 
         private void add(int op) {
-            if (size < code.length) {
+            if (size < MOST_SIGNS) {
                 put(code, size, op);
                 size++;
             }
@@ -1363,8 +1373,8 @@ public final class MurmurSheds {
         }
 
         private void addShed(long name, int kind, int heat, int many) {
-            if (sheds < shedNames.length) {
-                shedNames[sheds] = name;
+            if (sheds < MOST_SHEDS) {
+                put(shedNames, sheds, name);
                 put(kinds, sheds, kind);
                 put(heats, sheds, heat);
                 put(crowns, sheds, many);
@@ -1374,8 +1384,8 @@ public final class MurmurSheds {
         }
 
         private void addStage(long name, int low, int high) {
-            if (stages < stageNames.length) {
-                stageNames[stages] = name;
+            if (stages < MOST_STAGES) {
+                put(stageNames, stages, name);
                 put(lows, stages, low);
                 put(highs, stages, high);
                 stages++;
@@ -1395,8 +1405,8 @@ public final class MurmurSheds {
         }
 
         private int shedNamed(long name) {
-            for (int i = 0; i < sheds && i < shedNames.length; i++) {
-                if (shedNames[i] == name) {
+            for (int i = 0; i < sheds; i++) {
+                if (at(shedNames, i) == name) {
                     return i;
                 }
             }
@@ -1404,8 +1414,8 @@ public final class MurmurSheds {
         }
 
         private boolean hasStageNamed(long name) {
-            for (int i = 0; i < stages && i < stageNames.length; i++) {
-                if (stageNames[i] == name) {
+            for (int i = 0; i < stages; i++) {
+                if (at(stageNames, i) == name) {
                     return true;
                 }
             }
@@ -1510,8 +1520,9 @@ public final class MurmurSheds {
 
         private int greaterNear(Yard yard, int shed) {
             int greater = 0;
+            int near = at(yard.near, shed);
             for (int i = 0; i < sheds; i++) {
-                if (yard.areNear(shed, i) && at(crowns, i) > at(crowns, shed)) {
+                if ((near >> i & 1) == 1 && at(crowns, i) > at(crowns, shed)) {
                     greater++;
                 }
             }

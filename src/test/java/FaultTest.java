@@ -168,6 +168,8 @@ public final class FaultTest {
         fault(sheds.toString() + stages + "@shed sa", 5);
         fine("frost 1 1 1 1 1 1 1 1 1 1 1 1;");
         fault("frost 1 1 1 1 1 1 1 1 1 1 1 1 @1;", 5);
+        fault("frost 1 1 1 1 1 1 1 1 1 1 1 1 @0;", 5);
+        fault("frost 1 1 1 1 1 1 1 1 1 1 1 1 @9;", 5);
         fault("frost 1 1 1 1 1 1 1 1 1 1 1 1 @10;", 4);
         fault("frost 1 1 1 1 1 1 1 1 1 1 1 1 @a;", 1);
     }

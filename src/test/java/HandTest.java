@@ -16,6 +16,7 @@ public final class HandTest {
         marks(check);
         marksHold(check);
         marksHoldLines(check);
+        marksHoldSeen(check);
         check.end();
     }
 
@@ -259,5 +260,25 @@ public final class HandTest {
         check.due("its week", x.judged(0) * 10000 + x.judged(1) * 100 + x.judged(2), -10000 + 300 + 31);
         check.due("its seen", x.who(), 0);
         check.due("its seen", x.count(9), 3);
+    }
+
+    private static void marksHoldSeen(Check check) {
+        // In the first night they creak 30, 12, 160, in the second 40, 18, 180.
+        MurmurSheds x = check.of(YARD);
+        x.mark(0, false);
+        x.see(2, 40, false);
+        check.due("b alone", x.who(), 2);
+        x.mark(1, false);
+        x.mark(0, true);
+        check.due("nothing is seen", x.who(), 7);
+        x.see(1, 31, true);
+        check.due("c alone", x.who(), 4);
+        x.mark(2, false);
+        x.mark(1, true);
+        check.due("b alone", x.who(), 2);
+        x.mark(2, true);
+        check.due("c alone", x.who(), 4);
+        x.see(2, 180, false);
+        check.due("none", x.who(), 0);
     }
 }
