@@ -34,6 +34,10 @@ final class Check {
         return wrong;
     }
 
+    int made() {
+        return made;
+    }
+
     void end() {
         System.out.println(wrong + " of " + made + " answers are not as due");
         if (wrong != 0 || made == 0) {
@@ -74,6 +78,30 @@ final class Check {
         MurmurSheds x = new MurmurSheds();
         due("yard " + text, yard(x, text), 0);
         return x;
+    }
+
+    /** The line of a yard that tells one shed. */
+    static String shed(String name, String kind, int heat, int crowns) {
+        return "shed " + name + " " + kind + " heat " + heat + " crowns " + crowns + ";";
+    }
+
+    /** The yard must have its fault at what stands behind @, which is not told. */
+    void yardFault(String text, int kind) {
+        int place = text.indexOf('@');
+        due("yard " + text, yard(new MurmurSheds(), text.replace("@", "")), kind + 16 * place);
+    }
+
+    /** The week, told to the object, must have its fault at what stands behind @, which is not told. */
+    void weekFault(MurmurSheds x, String text, int kind) {
+        int place = text.indexOf('@');
+        due("week " + text, week(x, text.replace("@", "")), kind + 16 * place);
+    }
+
+    /** What shed answers of each of these sheds, from the first one on. */
+    void facts(MurmurSheds x, int what, int... due) {
+        for (int i = 0; i < due.length; i++) {
+            due("shed(" + i + ", " + what + ")", x.shed(i, what), due[i]);
+        }
     }
 
     void nights(MurmurSheds x, int many) {
