@@ -522,6 +522,10 @@ public final class MurmurSheds {
             copyRow(given, bestGiven);
             return;
         }
+        giveEach(stage, taken, many);
+    }
+
+    private void giveEach(int stage, int taken, int many) {
         int open = hadIn(now, stage) & ~taken;
         for (int i = 0; i < land.sheds; i++) {
             if ((open >> i & 1) == 1) {

@@ -29,6 +29,20 @@ final class GameEdges {
         }
     }
 
+    static void p36_oneShedOfEachNumber(Check check) {
+        for (int many = 1; many <= 20; many++) {
+            check.due("" + many, crowns(check, many).stick(), many % 4 == 0 ? -1 : many % 4);
+        }
+    }
+
+    static void p36_aShedOfTwentyBesideAnother(Check check) {
+        // Twenty weigh nothing; the pull is of the first shed by which both weigh alike.
+        for (int many = 1; many <= 19; many++) {
+            int due = many % 4 == 0 ? -1 : 4 - many % 4;
+            check.due("20 and " + many, crowns(check, 20, many).stick(), due);
+        }
+    }
+
     static void p36_twoThatAreAlikeCantBeWon(Check check) {
         for (int many = 1; many <= 20; many++) {
             check.due(many + " and " + many, crowns(check, many, many).stick(), -1);

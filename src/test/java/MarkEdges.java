@@ -106,7 +106,7 @@ final class MarkEdges {
         MurmurSheds x = yard(check);
         Check.week(x, "heat b 9;heat a 0;night;night;pull b 1;");
         x.mark(0, false);
-        Check.week(x, "heat a 2;heat b 2;heat a 2;heat b 2;pull a 3;");
+        Check.week(x, "heat a 2;heat a 2;heat a 2;heat a 2;pull a 3;");
         x.mark(0, true);
         check.due("all can be", x.judged(0), -1);
         check.due("b pops", x.judged(1), 3);
@@ -121,8 +121,8 @@ final class MarkEdges {
         x.see(2, 21, false);
         x.mark(0, false);
         x.mark(3, true);
-        x.see(2, 1, true);
         x.see(1, 1, false);
+        x.see(2, 1, true);
         check.due("a", x.who(), 1);
         x.mark(0, true);
         check.due("b", x.who(), 2);

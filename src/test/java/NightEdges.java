@@ -201,6 +201,20 @@ final class NightEdges {
         wild(check, 5, 6, 5, 8, 4, 20);
     }
 
+    static void p07_aWildOneBehindTheOthers(Check check) {
+        MurmurSheds x = check.of(Check.shed("a", "plain", 0, 6) + Check.shed("b", "plain", 0, 5)
+            + Check.shed("c", "wild", 2, 5) + "near c a;near b c;");
+        x.night();
+        check.facts(x, 3, 0, 0, 3);
+    }
+
+    static void p07_aShyOneBehindTheOthers(Check check) {
+        MurmurSheds x = check.of(Check.shed("a", "plain", 1, 1) + Check.shed("b", "shy", 8, 1) + "near b a;");
+        x.light(0);
+        x.night();
+        check.facts(x, 3, 0, 4);
+    }
+
     static void p07_aWildOneByOnesThatAreNotNear(Check check) {
         MurmurSheds x = check.of(Check.shed("a", "wild", 2, 5) + Check.shed("b", "plain", 0, 20)
             + Check.shed("c", "plain", 0, 20) + "near b c;");

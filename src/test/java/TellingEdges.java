@@ -146,6 +146,34 @@ final class TellingEdges {
         }
     }
 
+    static void p03_aYardOfFewerShedsAndStages(Check check) {
+        StringBuilder six = new StringBuilder("roof 60;grows 9;");
+        for (char name = 'a'; name < 'g'; name++) {
+            six.append(Check.shed("" + name, "plain", 9, 19)).append(name > 'a' ? "near a " + name + ";" : "");
+        }
+        for (char name = 't'; name < 'y'; name++) {
+            six.append("stage ").append(name).append(" wants 0 to 99;");
+        }
+        MurmurSheds x = check.of(six.toString());
+        check.nights(x, 7);
+        check.due("yard", Check.yard(x, Check.shed("q", "wild", 1, 4)), 0);
+        check.nights(x, 3);
+        check.facts(x, 3, 3);
+        check.due("crowns", x.count(5), 4);
+        check.due("riots", x.count(7), 0);
+        check.due("yields", x.yields(0), 1);
+        check.due("loud, tall", x.loud() + x.tall(), 0);
+        check.due("parts", x.parts(), 1);
+        check.due("who", x.who(), 1);
+        check.due("ask", x.ask(), -1);
+        check.due("stick", x.stick(), -1);
+        check.due("first", x.first(), 0);
+        check.due("roofed", x.roofed(), 27);
+        check.due("news", x.news(), 0);
+        check.due("plays", x.plays(-1), 0);
+        check.due("no stage", x.had(0), -1);
+    }
+
     // The fault is at the very end, when all of the new one has been read.
     private static MurmurSheds faulty(Check check) {
         MurmurSheds x = lived(check);
