@@ -130,6 +130,19 @@ final class MarkEdges {
         check.due("both", x.who(), 3);
     }
 
+    static void p40_theNightsOfWhatIsSeen(Check check) {
+        MurmurSheds x = yard(check);
+        x.light(0);
+        x.mark(3, false);
+        x.see(1, 1, true);
+        x.mark(0, false);
+        x.mark(3, true);
+        x.see(2, 1, true);
+        check.due("both", x.who(), 3);
+        x.mark(0, true);
+        check.due("b", x.who(), 2);
+    }
+
     static void p40_theLastOf40Lines(Check check) {
         MurmurSheds x = yard(check);
         Check.week(x, "heat a 5;".repeat(39) + "pull a 1;");

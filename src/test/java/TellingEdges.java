@@ -133,6 +133,15 @@ final class TellingEdges {
         }
     }
 
+    static void p03_aShorterLawBehindALongerOne(Check check) {
+        MurmurSheds x = new MurmurSheds();
+        for (String law : new String[] {"not 3", "not 3", "5", "1+2+3", "1+2+3", "5", "warm", "not 3", "tall+4"}) {
+            check.due("yard", Check.yard(x, Check.shed("a", "plain", 7, 1) + "grows " + law + ";"), 0);
+            int due = law.equals("not 3") ? 0 : law.equals("1+2+3") ? 6 : law.equals("warm") ? 7 : law.equals("5") ? 5 : 4;
+            check.due("law " + law, x.later(0, 1), due);
+        }
+    }
+
     static void p03_aYardBehindFaultyOnes(Check check) {
         MurmurSheds x = lived(check);
         for (int n = 0; n < 3; n++) {
@@ -154,10 +163,16 @@ final class TellingEdges {
         for (char name = 't'; name < 'y'; name++) {
             six.append("stage ").append(name).append(" wants 0 to 99;");
         }
-        MurmurSheds x = check.of(six.toString());
-        check.nights(x, 7);
+        MurmurSheds x = new MurmurSheds();
+        for (int n = 0; n < 2; n++) {
+            check.due("yard", Check.yard(x, six.toString()), 0);
+            check.nights(x, 7);
+        }
         check.due("yard", Check.yard(x, Check.shed("q", "wild", 1, 4)), 0);
-        check.nights(x, 3);
+        for (int n = 0; n < 3; n++) {
+            check.due("none pops", x.night(), 0);
+        }
+        check.due("heard", x.heard(0), 1);
         check.facts(x, 3, 3);
         check.due("crowns", x.count(5), 4);
         check.due("riots", x.count(7), 0);
